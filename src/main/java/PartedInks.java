@@ -36,6 +36,8 @@ public final class PartedInks {
     private static final int MOST_PAIRS = 6;
 
     private static final int[] FIRST_TONES = {0xff0, 0xf0f, 0x0ff, 0x888, 0x444};
+    /** How many orders there are of the inks behind each place of the order. */
+    private static final int[] ORDERS_BEHIND = {24, 6, 2, 1, 1};
     private static final int[] SIDE_X = {0, -1, 1, 0};
     private static final int[] SIDE_Y = {-1, 0, 0, 1};
 
@@ -573,13 +575,12 @@ public final class PartedInks {
     private static void writeOrder(int number, int[] order) {
         int free = ALL_INKS;
         int rest = number;
-        int block = 24;
         for (int k = 0; k < INKS; k++) {
-            int ink = nthInk(free, block > 0 ? rest / block : 0);
+            int block = Math.max(1, ORDERS_BEHIND[k]);
+            int ink = nthInk(free, rest / block);
             order[k] = ink;
             free = free & ~(1 << ink);
-            rest = block > 0 ? rest % block : 0;
-            block = k < INKS - 1 ? block / (INKS - 1 - k) : 1;
+            rest = rest % block;
         }
     }
 
