@@ -775,7 +775,7 @@ public final class PartedInks {
         }
 
         boolean isInside(int x, int y) {
-            return isBelow(x, wide) && isBelow(y, high);
+            return x >= 0 && x < wide && y >= 0 && y < high;
         }
 
         /** What falls out of the drawing is lost: there is no ink outside. */

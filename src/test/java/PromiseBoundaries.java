@@ -126,9 +126,12 @@ public final class PromiseBoundaries {
             dueBounds("y, what " + what, 0, 1, v -> x.place(2, v, w));
         }
         dueBounds("what", 0, 2, v -> x.place(2, 1, v));
-        due("set", x.place(2, 1, 0), 1);
-        due("look", x.place(2, 1, 1), 0xff0);
-        due("area", x.place(2, 1, 2), 4);
+        int[][] want = {{1, 0xff0, 0}, {2, 0xf0f, 1}, {0, 0xfff, 2}, {0, 0xfff, 3}, {2, 0xf0f, 1}, {1, 0xff0, 4}};
+        for (int k = 0; k < 6; k++) {
+            for (int what = 0; what < 3; what++) {
+                due("place " + k + ", what " + what, x.place(k % 3, k / 3, what), want[k][what]);
+            }
+        }
         PartedInks most = Checks.drawn("8a/8a/8a/8a/8a/7ab");
         dueBounds("x", 0, 7, v -> most.place(v, 5, 0));
         dueBounds("y", 0, 5, v -> most.place(7, v, 0));
@@ -429,7 +432,9 @@ public final class PromiseBoundaries {
         PartedInks x = Checks.drawn("2ab/a2b/2ba");
         dueBounds("area", 0, 2, v -> v < 3 ? Checks.drawn("2ab/a2b/2ba").fill(v, 31) : x.fill(v, 31));
         due("it has that set", x.fill(0, 1), NOT);
+        due("it has that set", x.fill(1, 2), NOT);
         due("it has that set", x.fill(2, 1), NOT);
+        due("the first area has that set, this one has not", Checks.drawn("2ab/a2b/2ba").fill(1, 1), 5);
         due("another one has it", x.fill(0, 2), 3);
         due("areas that are one now", x.count(3), 2);
         due("places of both", x.fill(0, 0), 8);

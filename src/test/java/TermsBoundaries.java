@@ -987,7 +987,11 @@ public final class TermsBoundaries {
         due("not by both", x.seen(1, 0, 2, 0, 2), 0);
         x.tell(1, 3, 0xf0f);
         due("whatever kind it is of now", x.seen(1, 0, 2, 0, 1), 1);
-        due("which stays", x.ink(1, 0), 3);
+        for (int kind = 0; kind < 4; kind++) {
+            x.tell(1, kind, 0xf0f);
+            due("whatever kind it is of now", x.seen(1, 0, 2, 0, 1), 1);
+            due("which stays", x.ink(1, 0), kind);
+        }
         x.tell(0, 3, 0xff0);
         due("by the kinds that others are of", x.seen(1, 0, 2, 0, 1), 0);
     }
