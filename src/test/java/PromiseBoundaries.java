@@ -167,6 +167,7 @@ public final class PromiseBoundaries {
         due("like sets, unlike areas", Checks.drawn("aba").area(1, 2), 2);
         due("none's areas, too", Checks.drawn(".a.").area(1, 2), 2);
         due("the end of a line and the next one's begin", Checks.drawn("7ab/c7d").area(1, 2), 2);
+        due("the begin of a line and the end of the one ahead", Checks.drawn("7ab/c7d").area(2, 2), 2);
         PartedInks lines = Checks.drawn("abcdeabc/8.");
         due("eight above it", lines.area(8, 2), 8);
         PartedInks most = Checks.drawn("abababab/8./babababa/abababab/8./babababa");
@@ -254,6 +255,10 @@ public final class PromiseBoundaries {
         }
         due("a full tape", x.draw(), -20);
         due("has room again", x.type('a'), 1);
+        due("a drawing with blanks behind it", Checks.text(x, "   "), 1);
+        due("blanks of an earlier tape are gone, too", Checks.text(x, "2"), -21);
+        due("letters of an earlier tape are gone, too", Checks.text(x, "(abcde)"), 1);
+        due("letters of an earlier tape are gone, too", Checks.text(x, "("), -21);
     }
 
     private static void faultLeavesAll() {

@@ -41,6 +41,9 @@ public final class TermsBoundaries {
 
     private static void answersBelowNought() {
         Checks.sentence("An object is used for at most 512 calls after it has been made", TermsBoundaries::manyCalls);
+        Checks.sentence("BAD -1 (a number is not as told, there is no such thing), NOT -2 (as told), FULL -3, NONE -4 (as told), CAST -12 (of SHEETS another LANE)",
+            TermsBoundaries::toldAnswers);
+        Checks.sentence("what the machine finds: NULL -11, INDEX -13, SIZE -14", TermsBoundaries::machineAnswers);
         Checks.sentence("of several BAD ahead of all others", TermsBoundaries::badFirst);
         Checks.sentence("then the first that a call names", TermsBoundaries::thenAsNamed);
         Checks.sentence("NULL, CAST, INDEX, SIZE in this order", TermsBoundaries::machineOrder);
@@ -88,6 +91,38 @@ public final class TermsBoundaries {
             got = calls.applyAsInt(x);
         }
         due("the last of 512 calls", got, want);
+    }
+
+    /** The numbers as the document has them, not by the constants' names. */
+    private static void toldAnswers() {
+        PartedInks x = withSheets();
+        due("no such ink", x.ink(5, 0), -1);
+        due("no such tone", x.tell(0, 0, 4096), -1);
+        due("it is so", x.order(1234), -2);
+        due("none is known", x.undo(), -4);
+        due("there is none", x.restore(), -4);
+        due("no gap by any", x.count(6), -4);
+        due("another lane", x.item(0, 1, 0, 0), -12);
+        due("unlike lanes", x.copy(0, 0, 1, 0, 1), -12);
+        for (int k = 0; k < 100; k++) {
+            x.type('a');
+        }
+        due("full", x.type('a'), -3);
+        int[] named = {PartedInks.BAD, PartedInks.NOT, PartedInks.FULL, PartedInks.NONE, PartedInks.CAST};
+        int[] want = {-1, -2, -3, -4, -12};
+        for (int k = 0; k < 5; k++) {
+            due("constant " + k, named[k], want[k]);
+        }
+    }
+
+    private static void machineAnswers() {
+        PartedInks x = withSheets();
+        due("nothing", x.drop(2), -11);
+        due("behind the last item", x.item(0, 2, 4, 0), -13);
+        due("a row of less than no items", x.sheet(2, 0, -1), -14);
+        due("NULL", PartedInks.NULL, -11);
+        due("INDEX", PartedInks.INDEX, -13);
+        due("SIZE", PartedInks.SIZE, -14);
     }
 
     /** Sheet 0: ints, of which the first is no set; sheet 1: bytes; sheet 2: nothing; sheet 3: no items. */
@@ -515,6 +550,9 @@ public final class TermsBoundaries {
         due("an ink that looks like none", x.count(4), 3);
         due("as many as places", Checks.drawn("abcde(ab)(ac)(bc)").count(4), 8);
         due("sets that are not drawn don't count", Checks.drawn("2e").count(4), 1);
+        due("the greatest set", Checks.drawn("(abcde)").count(4), 1);
+        due("the greatest set and the least", Checks.drawn("(abcde).(abcde)").count(4), 2);
+        due("the greatest set looks like another", Checks.drawn("(abcde)(abc)(abcd)").count(4), 1);
     }
 
     private static void text(PartedInks x, String letters) {
@@ -560,6 +598,7 @@ public final class TermsBoundaries {
             white.tell(ink, 0, 0xfff);
         }
         due("the look of none needs none", white.count(5), 0);
+        due("the greatest set, by those that look like it", Checks.drawn("(abcde)").count(5), 7);
     }
 
     // ---- 2 aside
