@@ -325,7 +325,8 @@ public final class PartedInks {
         return 1;
     }
 
-    // ---- 3 sheets
+    // ---- 3 sheets 0 .. 3: nothing (at first), or a row of a LANE: 0 bytes, 1 shorts, 2 ints, 3 longs
+    // (all with a sign), of 0 to 24 items
 
     public int seen(int ink, int sheet, int lane, int i, int n) {
         if (!isBelow(ink, INKS) || !isTaking(sheet, lane) || n < 1 || n > MOST_PAIRS) {
